@@ -576,8 +576,8 @@ public final class Twinindex {
 
     private int markedPagers() {
         int marked = 0;
-        for (int pager = 0; pager < MOST_PAGERS; pager++) {
-            marked += ofPager(pager, 2);
+        for (Pager pager : pagers) {
+            marked += pager.isMarked ? 1 : 0;
         }
         return marked;
     }

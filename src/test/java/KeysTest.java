@@ -95,6 +95,8 @@ public final class KeysTest {
     private static void values() {
         Twinindex x = Check.with(20, 2, 10, -999, 30, 999);
         Check.asks(20, "values()", x, x::values, "-999 2 999");
+        x.keys(true);
+        Check.asks(20, "values() after keys(true)", x, x::values, "-999 2 999");
         Check.same(20, "values() of none", new Twinindex().values(), "");
     }
 

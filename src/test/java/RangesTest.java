@@ -46,6 +46,8 @@ public final class RangesTest {
         Check.asks(24, "rangeEnd(10, 40, true)", x, () -> x.rangeEnd(10, 40, true), 40);
         Check.asks(24, "rangeEnd(11, 39, false)", x, () -> x.rangeEnd(11, 39, false), 20);
         Check.asks(24, "rangeEnd(11, 39, true)", x, () -> x.rangeEnd(11, 39, true), 30);
+        Check.asks(24, "rangeEnd(20, 20, false)", x, () -> x.rangeEnd(20, 20, false), 20);
+        Check.asks(24, "rangeEnd(20, 20, true)", x, () -> x.rangeEnd(20, 20, true), 20);
         Check.refuses(24, "rangeEnd(21, 29, true)", x, STATE, () -> x.rangeEnd(21, 29, true));
         Check.refuses(24, "rangeEnd(21, 29, false)", x, STATE, () -> x.rangeEnd(21, 29, false));
         Check.refuses(24, "rangeEnd(41, greatest, false)", x, STATE,
@@ -61,6 +63,8 @@ public final class RangesTest {
         Check.asks(25, "rangeNear(15, 35, 30, 1)", x, () -> x.rangeNear(15, 35, 30, 1), 30);
         Check.asks(25, "rangeNear(15, 35, 20, 2)", x, () -> x.rangeNear(15, 35, 20, 2), 20);
         Check.asks(25, "rangeNear(15, 35, 20, 3)", x, () -> x.rangeNear(15, 35, 20, 3), 30);
+        Check.asks(25, "rangeNear(20, 20, 20, 1)", x, () -> x.rangeNear(20, 20, 20, 1), 20);
+        Check.asks(25, "rangeNear(20, 20, 30, 0)", x, () -> x.rangeNear(20, 20, 30, 0), 20);
         Check.asks(25, "rangeNear(15, 35, greatest, 0)", x,
                 () -> x.rangeNear(15, 35, Check.GREATEST, 0), 30);
         Check.asks(25, "rangeNear(15, 35, 100, 1)", x, () -> x.rangeNear(15, 35, 100, 1), 30);
@@ -121,6 +125,10 @@ public final class RangesTest {
         Check.same(27, "text()", x.text(), "{10=1, 40=4}");
         Check.same(27, "uses()", x.uses(), "10 40");
         Check.same(27, "steps()", x.steps(), 6);
+        Check.same(27, "rangePoll(40, 40, false)", x.rangePoll(40, 40, false), 40);
+        Check.same(27, "rangePoll(10, 10, true)", x.rangePoll(10, 10, true), 10);
+        x.undo();
+        x.undo();
         Check.refuses(27, "rangePoll(11, 39, false)", x, STATE, () -> x.rangePoll(11, 39, false));
         Check.refuses(27, "rangePoll(11, 39, true)", x, STATE, () -> x.rangePoll(11, 39, true));
         Check.refuses(27, "rangePoll(40, 10, true)", x, ILLEGAL, () -> x.rangePoll(40, 10, true));
@@ -132,6 +140,8 @@ public final class RangesTest {
         Check.asks(28, "rangeClear(21, 29)", x, () -> x.rangeClear(21, 29), 0);
         Check.asks(28, "rangeClear(29, 21)", x, () -> x.rangeClear(29, 21), Check.REFUSED);
         Check.asks(28, "rangeClear(40, 10)", x, () -> x.rangeClear(40, 10), Check.REFUSED);
+        Check.same(28, "rangeClear(20, 20)", x.rangeClear(20, 20), 1);
+        Check.same(28, "undo()", x.undo(), 1);
         Check.same(28, "rangeClear(20, 40)", x.rangeClear(20, 40), 3);
         Check.same(28, "text()", x.text(), "{10=1}");
         Check.same(28, "uses()", x.uses(), "10");
@@ -145,6 +155,7 @@ public final class RangesTest {
         Check.asks(29, "rangeSum(10, 40)", x, () -> x.rangeSum(10, 40), 10);
         Check.asks(29, "rangeSum(11, 30)", x, () -> x.rangeSum(11, 30), 5);
         Check.asks(29, "rangeSum(21, 29)", x, () -> x.rangeSum(21, 29), 0);
+        Check.asks(29, "rangeSum(40, 40)", x, () -> x.rangeSum(40, 40), 4);
         Check.refuses(29, "rangeSum(30, 10)", x, ILLEGAL, () -> x.rangeSum(30, 10));
         Twinindex low = Check.with(Check.LEAST, -999, Check.GREATEST, -999);
         Check.asks(29, "rangeSum(least, greatest)", low,
@@ -157,6 +168,7 @@ public final class RangesTest {
         Check.asks(30, "rangeText(20, 39)", x, () -> x.rangeText(20, 39), "20=2 30=3");
         Check.asks(30, "rangeText(40, greatest)", x, () -> x.rangeText(40, Check.GREATEST), "40=4");
         Check.asks(30, "rangeText(21, 29)", x, () -> x.rangeText(21, 29), "");
+        Check.asks(30, "rangeText(30, 30)", x, () -> x.rangeText(30, 30), "30=3");
         Check.refuses(30, "rangeText(1, 0)", x, ILLEGAL, () -> x.rangeText(1, 0));
     }
 
@@ -166,6 +178,7 @@ public final class RangesTest {
         Check.asks(31, "rangeUse(10, 30)", x, () -> x.rangeUse(10, 30), "30 10 20");
         Check.asks(31, "rangeUse(31, 40)", x, () -> x.rangeUse(31, 40), "40");
         Check.asks(31, "rangeUse(21, 29)", x, () -> x.rangeUse(21, 29), "");
+        Check.asks(31, "rangeUse(10, 10)", x, () -> x.rangeUse(10, 10), "10");
         Check.refuses(31, "rangeUse(40, 10)", x, ILLEGAL, () -> x.rangeUse(40, 10));
     }
 
@@ -175,6 +188,7 @@ public final class RangesTest {
         Check.asks(32, "rangeAge(10, 40, true)", x, () -> x.rangeAge(10, 40, true), 20);
         Check.asks(32, "rangeAge(10, 20, false)", x, () -> x.rangeAge(10, 20, false), 10);
         Check.asks(32, "rangeAge(30, 40, true)", x, () -> x.rangeAge(30, 40, true), 40);
+        Check.asks(32, "rangeAge(10, 10, true)", x, () -> x.rangeAge(10, 10, true), 10);
         Check.refuses(32, "rangeAge(21, 29, true)", x, STATE, () -> x.rangeAge(21, 29, true));
         Check.refuses(32, "rangeAge(21, 29, false)", x, STATE, () -> x.rangeAge(21, 29, false));
         Check.refuses(32, "rangeAge(40, 10, true)", x, ILLEGAL, () -> x.rangeAge(40, 10, true));

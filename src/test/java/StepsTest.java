@@ -5,7 +5,8 @@ public final class StepsTest {
         undoOfEachKind();
         undoIsUse();
         undoTwelve();
-        undoWhatTheNextChanged();
+        undoOfLargeSteps();
+        undoAfterManyLargeSteps();
         steps();
         stepsOfQuestions();
         forget();
@@ -80,8 +81,8 @@ public final class StepsTest {
         Check.same(41, "keys(false)", x.keys(false), "1 2 3 4");
     }
 
-    /** STEPS of many KEYS at the ring's ends: each falls out whole. */
-    private static void undoWhatTheNextChanged() {
+    /** A STEP of many KEYS is kept, and falls out, whole. */
+    private static void undoOfLargeSteps() {
         Twinindex x = Check.full();
         x.clear();
         x.undo();
@@ -105,6 +106,25 @@ public final class StepsTest {
         }
         Check.same(41, "undo() of clear(), which is kept no more", x.undo(), Check.REFUSED);
         Check.same(41, "text()", x.text(), "{}");
+    }
+
+    /** Far more is changed than 12 STEPS keep: what falls out, or is forgotten, leaves room for the next. */
+    private static void undoAfterManyLargeSteps() {
+        Twinindex x = Check.full();
+        String all = x.text();
+        x.copy();
+        for (int time = 1; time <= 100; time++) {
+            Check.same(41, "clear()", x.clear(), 24);
+            Check.same(41, "back()", x.back(), 24);
+            if (time < 50 && time % 6 == 0) {
+                Check.same(41, "forget()", x.forget(), 12);
+            }
+        }
+        for (int step = 1; step <= 12; step++) {
+            Check.same(41, "undo()", x.undo(), 24);
+            Check.same(41, "text()", x.text(), step % 2 == 0 ? all : "{}");
+        }
+        Check.same(41, "undo()", x.undo(), Check.REFUSED);
     }
 
     private static void steps() {

@@ -1,4 +1,5 @@
 import java.lang.reflect.Field;
+import java.lang.reflect.Method;
 
 /** Promises 48 to 51: the whole. */
 public final class WholeTest {
@@ -61,6 +62,12 @@ public final class WholeTest {
 
     /** No run of calls makes an index that is not sound: the test reaches inside. */
     private static void isSoundTellsFaults() throws ReflectiveOperationException {
+        Twinindex fewer = Check.with(1, 10, 2, 20);
+        Twinindex one = Check.with(1, 10);
+        become(inside(fewer, "byUse"), inside(one, "byUse"));
+        Check.same(50, "isSound() with a KEY less BY USE", fewer.isSound(), false);
+        become(inside(one, "byUse"), inside(Check.with(1, 10, 2, 20), "byUse"));
+        Check.same(50, "isSound() with a KEY more BY USE", one.isSound(), false);
         Twinindex other = Check.with(1, 10, 2, 20);
         int[] uses = cells(inside(other, "byUse"));
         uses[0] = 7;
@@ -73,6 +80,14 @@ public final class WholeTest {
         keys[0] = 2;
         keys[1] = 1;
         Check.same(50, "isSound() with turned KEYS", other.isSound(), false);
+        keys[0] = 1;
+        Check.same(50, "isSound() with a KEY twice BY KEYS", other.isSound(), false);
+    }
+
+    private static void become(Object row, Object other) throws ReflectiveOperationException {
+        Method become = row.getClass().getDeclaredMethod("become", row.getClass());
+        become.setAccessible(true);
+        become.invoke(row, other);
     }
 
     private static Object inside(Object object, String name) throws ReflectiveOperationException {
