@@ -1,3 +1,5 @@
+import java.math.BigInteger;
+
 /** What the tests share: they count and print each answer that is not the one that is due. */
 final class Check {
     interface Call {
@@ -16,12 +18,16 @@ final class Check {
     }
 
     static void same(int promise, String call, Object got, Object due) {
+        same("promise " + promise + ": " + call, got, due);
+    }
+
+    static void same(String call, Object got, Object due) {
         if (due.equals(got)) {
             passed++;
             return;
         }
         failed++;
-        System.out.println("promise " + promise + ": " + call + " answered " + got + ", due is " + due);
+        System.out.println(call + " answered " + got + ", due is " + due);
     }
 
     /** The call answers this, and all that can be seen of the index stays as it was. */
@@ -74,6 +80,15 @@ final class Check {
             }
         }
         return sight.append(" apart ").append(index.apart()).toString();
+    }
+
+    /** What digest() makes of these numbers; it counts without bound, and wraps around at the end. */
+    static long digestOf(long... numbers) {
+        BigInteger d = BigInteger.valueOf(7839);
+        for (long number : numbers) {
+            d = d.multiply(BigInteger.valueOf(31)).add(BigInteger.valueOf(number));
+        }
+        return d.longValue();
     }
 
     static void end(String name) {

@@ -72,6 +72,8 @@ public final class WholeTest {
         int[] uses = cells(inside(other, "byUse"));
         uses[0] = 7;
         Check.same(50, "isSound() with another KEY BY USE", other.isSound(), false);
+        Check.same(51, "digest() of one that is not sound", other.digest(), Check.digestOf(2, 2, 0, 0, 0,
+                1, 10, 2, 20, 7, 2, 0, 2, 0, 0, 0, 2, 0, 0, 0, 2, 0, 0, (1 ^ 10) + (2 ^ 20), 12, 2, 0));
         uses[0] = 2;
         Check.same(50, "isSound() with a KEY twice BY USE", other.isSound(), false);
         uses[0] = 1;
@@ -100,17 +102,9 @@ public final class WholeTest {
         return (int[]) inside(row, "cells");
     }
 
-    private static long digestOf(long... numbers) {
-        long d = 7839;
-        for (long number : numbers) {
-            d = d * 31 + number;
-        }
-        return d;
-    }
-
     private static void digestOfNone() {
         Twinindex x = new Twinindex();
-        long due = digestOf(0, 0, 0, 0, 0, 0, 0, 0, 0, 0, 0, 0, 0, 0, 0, 0, 0, 0, 2, 0, 1);
+        long due = Check.digestOf(0, 0, 0, 0, 0, 0, 0, 0, 0, 0, 0, 0, 0, 0, 0, 0, 0, 0, 2, 0, 1);
         Check.asks(51, "digest() of none", x, x::digest, due);
     }
 
@@ -121,7 +115,7 @@ public final class WholeTest {
         x.get(2);
         x.next(1, 1);
         x.knock();
-        long due = digestOf(2, 3, 2, 1, 1, 2, 20, 5, 7, 5, 2,
+        long due = Check.digestOf(2, 3, 2, 1, 1, 2, 20, 5, 7, 5, 2,
                 0, 2, 0, 0, 1, 1, 1, 2, 0, 2, 0, 0,
                 (2 ^ 20) + (5 ^ 7), "{2=20, 5=7}".length(), 1, 1);
         Check.asks(51, "digest()", x, x::digest, due);
@@ -130,7 +124,7 @@ public final class WholeTest {
     private static void digestWrapsAround() {
         Twinindex x = Check.with(Check.GREATEST, 0, Check.LEAST, 0, Check.GREATEST - 1, 999);
         int hash = Check.GREATEST + Check.LEAST + ((Check.GREATEST - 1) ^ 999);
-        long due = digestOf(3, 3, 0, 0, 0,
+        long due = Check.digestOf(3, 3, 0, 0, 0,
                 Check.LEAST, 0, Check.GREATEST - 1, 999, Check.GREATEST, 0,
                 Check.GREATEST, Check.LEAST, Check.GREATEST - 1,
                 0, 3, 0, 0, 0, 3, 0, 0, 0, 3, 0, 0,
