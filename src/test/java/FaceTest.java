@@ -81,11 +81,16 @@ public final class FaceTest {
 
     private static void nestedClasses() {
         Class<?>[] nested = Twinindex.class.getDeclaredClasses();
+        Set<String> names = Arrays.stream(Twinindex.class.getMethods()).map(Method::getName)
+                .collect(Collectors.toSet());
         Check.same(FACE, "twelve classes at most", nested.length < 12, true);
         for (Class<?> inside : nested) {
             int modifiers = inside.getModifiers();
             Check.same(FACE, inside + " is static, and not public",
                     Modifier.isStatic(modifiers) && !Modifier.isPublic(modifiers), true);
+            for (Method method : inside.getDeclaredMethods()) {
+                Check.same(FACE, method + " has a name of its own", names.contains(method.getName()), false);
+            }
         }
         for (Class<?> each : withFace(nested)) {
             long fields = Arrays.stream(each.getDeclaredFields())

@@ -10,6 +10,7 @@ public final class WholeTest {
         knock();
         isSound();
         isSoundTellsFaults();
+        isSoundTellsFaultsThatNoSumTells();
         digestOfNone();
         digest();
         digestWrapsAround();
@@ -84,6 +85,25 @@ public final class WholeTest {
         Check.same(50, "isSound() with turned KEYS", other.isSound(), false);
         keys[0] = 1;
         Check.same(50, "isSound() with a KEY twice BY KEYS", other.isSound(), false);
+    }
+
+    /** Each of these KEYS BY USE has the sum that hash() has; with a VALUE of 0 a KEY adds itself. */
+    private static void isSoundTellsFaultsThatNoSumTells() throws ReflectiveOperationException {
+        Twinindex other = Check.with(1, 0, 2, 0, 3, 0);
+        int[] uses = cells(inside(other, "byUse"));
+        uses[0] = 2;
+        uses[2] = 2;
+        Check.same(50, "isSound() with BY USE 2 2 2", other.isSound(), false);
+        uses[0] = 0;
+        uses[1] = 1000;
+        uses[2] = 6 - (0 ^ Check.NONE) - (1000 ^ Check.NONE) ^ Check.NONE;
+        Check.same(50, "isSound() with other KEYS BY USE", other.isSound(), false);
+        Twinindex one = Check.with(0, 0, 5, 0);
+        become(inside(one, "byUse"), inside(Check.with(0, 0, 5, 0, 6, 0), "byUse"));
+        cells(inside(one, "byUse"))[2] = 0;
+        Check.same(50, "isSound() with BY USE 0 5 0", one.isSound(), false);
+        cells(inside(one, "byUse"))[2] = Check.NONE;
+        Check.same(50, "isSound() with -1000 BY USE as well", one.isSound(), false);
     }
 
     private static void become(Object row, Object other) throws ReflectiveOperationException {
